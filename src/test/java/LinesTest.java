@@ -396,8 +396,12 @@ public final class LinesTest {
             d.due("20: color of " + i, x.sign(0, i, 2), colors[i]);
         }
         x.style(1);
-        x.setStyle(2, 1, 5);
         d.due("20: the style 2 is there now", x.sign(0, 4, 1), 41);
+        x.setParent(2, 0);
+        d.due("20: with another parent", x.sign(0, 4, 1), 31);
+        x.setParent(2, 1);
+        d.due("20: with the first parent", x.sign(0, 4, 1), 41);
+        x.setStyle(2, 1, 5);
         d.due("20: its color", x.sign(0, 4, 2), 5);
         x.unstyle();
         d.due("20: and gone again", x.sign(0, 4, 1), 20);
@@ -469,12 +473,19 @@ public final class LinesTest {
         d.due("22: above 9999", x.fit(3), -2);
         Due.line(x, "{k1}{k9999}", 0, 10000, -1);
         d.due("22: just 9999", x.fit(4), 9999);
+        Due.line(x, "{k4}{k3}", 0, 10, -1);
+        d.due("22: the last item", x.fit(5), 6);
+        d.due("21: lasts", x.syllable(5, 1, 1), 6);
+        d.due("21: the first one as before", x.syllable(5, 0, 1), 4);
+        Due.line(x, "{k4}", 0, 10, -1);
+        d.due("22: the only item", x.fit(6), 10);
+        d.due("21: lasts", x.syllable(6, 0, 1), 10);
         StringBuilder full = new StringBuilder("{k1}");
         while (full.length() < 80) {
             full.append('x');
         }
         Due.line(x, full.toString(), 0, 5000, -1);
-        d.due("22: a text may grow above 80", x.fit(5), 5000);
-        d.due("18: its signs", x.about(5, 4), 76);
+        d.due("22: a text may grow above 80", x.fit(7), 5000);
+        d.due("18: its signs", x.about(7, 4), 76);
     }
 }

@@ -144,7 +144,10 @@ public final class StylesTest {
         x.change(1, 0, 0);
         d.due("5: free again", x.unstyle(), 1);
         d.due("5: a line's again", x.unstyle(), -2);
+        x.change(0, 0, 0);
         x.remove(1);
+        d.due("5: the first line's", x.unstyle(), -2);
+        x.remove(0);
         Due.line(x, "{r0}c", 0, 1, -1);
         d.due("5: a tag does not keep it", x.unstyle(), 0);
     }

@@ -93,6 +93,9 @@ public final class TimesTest {
         d.due("25: of one", x.crowd(), 50);
         Due.line(x, "b", 10, 20, -1);
         d.due("25: the first of two", x.crowd(), 10);
+        Due.line(x, "z", 30, 35, -1);
+        d.due("25: the first of three", x.crowd(), 10);
+        x.remove(2);
         Due.line(x, "c", 59, 70, -1);
         d.due("25: two at 59", x.crowd(), 59);
         Due.line(x, "d", 20, 30, -1);
@@ -121,6 +124,8 @@ public final class TimesTest {
         d.dueFloat("26: six of seven", x.sung(19), 6f / 7f);
         x.remove(1);
         d.dueFloat("26: all", x.sung(12), 1f);
+        x.remove(0);
+        d.dueFloat("26: all of the line 0", x.sung(12), 1f);
         d.dueFloat("26: MIN", x.sung(MIN), 0f);
         d.dueFloat("26: MAX", x.sung(MAX), 0f);
     }
