@@ -8,6 +8,7 @@ public final class LinesTest {
         types();
         addsLines();
         findsErrorPlaces();
+        readsAnew();
         ordersErrors();
         removesLines();
         changesLines();
@@ -133,6 +134,17 @@ public final class LinesTest {
         dueError("{c8}{s00000}", 10);
     }
 
+    private static void readsAnew() {
+        String[] wrong = {"ab{", "{s", "{s1", "{s0}", "{x}", "{k12345}"};
+        for (String text : wrong) {
+            SubtitleStyles x = new SubtitleStyles();
+            d.due("13: is wrong: " + text, Due.line(x, text, 0, 1, -1) < -99 ? 1 : 0, 1);
+            x.clear();
+            d.due("13: a right text behind " + text, Due.line(x, "5}", 0, 1, -1), 0);
+            d.due("18: its signs", x.about(0, 4), 2);
+        }
+    }
+
     private static void ordersErrors() {
         SubtitleStyles x = new SubtitleStyles();
         Due.type(x, "{");
@@ -160,6 +172,9 @@ public final class LinesTest {
         d.due("14: the later one", x.about(1, 4), 3);
         d.due("14: its place", x.about(1, 9), 30);
         d.due("14: none behind it", x.about(2, 4), -1);
+        d.due("14: nor a sign", x.sign(2, 0, 0), -1);
+        d.due("14: nor what it shows", x.shows(2, 0, 5), -1);
+        d.due("14: nor one that is shown", x.shown(5, 2), -9);
         d.due("14: remove(0)", x.remove(0), 1);
         d.due("14: the one that is left", x.about(0, 0), 2);
         d.due("14: its place then", x.about(0, 9), 10);

@@ -16,6 +16,7 @@ public final class StylesTest {
         tellsNumbers();
         tellsValues();
         tellsSources();
+        goesUpTenStyles();
         d.end();
     }
 
@@ -260,5 +261,20 @@ public final class StylesTest {
         d.due("9: property -1", x.from(0, -1), -1);
         d.due("9: property 6", x.from(0, 6), -1);
         d.due("9: MIN, MAX", x.from(MIN, MAX), -1);
+    }
+
+    private static void goesUpTenStyles() {
+        SubtitleStyles x = new SubtitleStyles();
+        for (int i = 0; i < 10; i++) {
+            x.style(i - 1);
+        }
+        x.setStyle(0, 0, 88);
+        d.due("3: a round of ten", x.setParent(0, 9), -2);
+        d.due("7: nine above", x.styleAt(9, 7), 9);
+        d.due("8: from the highest one", x.valueOf(9, 0), 88);
+        d.due("9: from the highest one", x.from(9, 0), 0);
+        d.due("9: basic above ten", x.from(9, 1), -9);
+        Due.line(x, "a{r}b", 0, 1, 9);
+        d.due("20: from the highest one", x.sign(0, 1, 1), 88);
     }
 }
