@@ -190,6 +190,14 @@ public final class StylesTest {
         d.due("6: flatten() again", x.flatten(), 0);
         x.setStyle(2, 0, 44);
         d.due("6: no longer a parent's", x.valueOf(0, 0), 33);
+        SubtitleStyles y = new SubtitleStyles();
+        y.style(-1);
+        y.style(-1);
+        y.style(0);
+        y.unstyle();
+        d.due("6: not those of a removed one", y.flatten(), 12);
+        d.due("6: basic values", y.styleAt(0, 0), 20);
+        d.due("6: basic values of the second", y.styleAt(1, 0), 20);
     }
 
     private static void tellsNumbers() {
