@@ -13,6 +13,8 @@ import java.util.regex.Pattern;
  */
 public final class ModelTest {
     private static final int CALLS = 512;
+    /** The calls that end a run: what follows a text, the fingerprints and undo(). */
+    private static final int LAST_CALLS = 20;
     private static final int RUNS = 1000;
 
     /** A state of the slow program. */
@@ -666,11 +668,11 @@ public final class ModelTest {
     }
 
     private int aStyle() {
-        return dice.near(-1, Math.max(0, x.styles() - 1));
+        return dice.near(-1, Math.max(0, slow.now.styles.size() - 1));
     }
 
     private int aLine() {
-        return dice.near(0, Math.max(0, x.lines() - 1));
+        return dice.near(0, Math.max(0, slow.now.lines.size() - 1));
     }
 
     private int aTime() {
@@ -679,7 +681,7 @@ public final class ModelTest {
 
     private void typeText() {
         String text = dice.text();
-        for (int i = 0; i < text.length() && calls < CALLS; i++) {
+        for (int i = 0; i < text.length() && calls < CALLS - LAST_CALLS; i++) {
             int c = text.charAt(i);
             due("type(" + c + ")", x.type(c), slow.type(c));
         }
@@ -815,7 +817,7 @@ public final class ModelTest {
     }
 
     private void goThrough() {
-        while (calls < CALLS - 20) {
+        while (calls < CALLS - LAST_CALLS) {
             int kind = dice.below(20);
             if (kind < 3) {
                 addLine();
