@@ -17,6 +17,8 @@ public final class ReadmeTest {
     /** A statement with the number behind "//" that it answers. */
     private static final Pattern ANSWERED = Pattern.compile("(int (\\w+) = )?(.+?);\\s+// (-?\\d+(\\.\\d+)?)(, .*)?");
     private static final Pattern TAG = Pattern.compile("\\| `\\{(\\w)N\\}` \\|.*\\((\\d+) (?:to|or) (\\d+)[;)].*");
+    private static final Pattern PROPERTY =
+            Pattern.compile("\\| (\\d) \\| [^|]* \\| (\\d+) to (\\d+) \\| (\\d+) \\|");
     private static final Pattern CONSTANT = Pattern.compile("\\| (-\\d+) `(\\w+)` \\|.*");
     private static final Pattern CALL = Pattern.compile("\\| `(\\w+)\\((.*)\\)` \\|.*");
 
@@ -26,6 +28,7 @@ public final class ReadmeTest {
         List<String> readme = Files.readAllLines(Path.of("README.md"));
         examples(block(readme, "java"));
         commands(block(readme, "sh"));
+        properties(readme);
         tags(readme);
         constants(readme);
         calls(readme);
@@ -99,6 +102,29 @@ public final class ReadmeTest {
         for (String line : lines) {
             run(line, "sh", "-c", line);
         }
+    }
+
+    private static void properties(List<String> lines) {
+        int told = 0;
+        for (String line : lines) {
+            Matcher matcher = PROPERTY.matcher(line);
+            if (matcher.matches()) {
+                d.due("the property told next", Integer.parseInt(matcher.group(1)), told);
+                int least = Integer.parseInt(matcher.group(2));
+                int greatest = Integer.parseInt(matcher.group(3));
+                d.due("basic value of " + told, new SubtitleStyles().valueOf(-1, told), Integer.parseInt(matcher.group(4)));
+                for (int value = -5; value <= 300; value++) {
+                    // A value below the least may be -1, which stands for none.
+                    SubtitleStyles x = new SubtitleStyles();
+                    x.style(-1);
+                    x.setStyle(0, told, value);
+                    boolean allowed = value >= least && value <= greatest;
+                    d.due("the value " + value + " of " + told, x.styleAt(0, told), allowed ? value : -1);
+                }
+                told++;
+            }
+        }
+        d.due("all properties are told", told, 6);
     }
 
     private static void tags(List<String> lines) {
